@@ -46,12 +46,14 @@ final class Expect {
         due(call, IllegalStateException.class.getName(), thrownBy(told));
     }
 
-    // By its exact class, since what the machine throws itself is a class below these.
+    // By its exact class and its place, since the machine's are classes below these, and the library
+    // throws some of the same classes from places of its own.
     private static String thrownBy(Told told) {
         try {
             told.tell();
         } catch (RuntimeException e) {
-            return e.getClass().getName();
+            String place = e.getStackTrace().length == 0 ? "nowhere" : e.getStackTrace()[0].getClassName();
+            return e.getClass().getName() + (place.startsWith("RoamBooks") ? "" : " from " + place);
         }
         return "nothing thrown";
     }

@@ -22,6 +22,7 @@ public final class FilesTest {
         passTellsTheMinute();
         passRefusesWrongInputs();
         longPassesAreLikeManyShortOnes();
+        nineLostNoticesAreComeOverInALongPass();
         Expect.end();
     }
 
@@ -179,20 +180,26 @@ public final class FilesTest {
 
     private static void thresholdsReachBackToTheFirstMinute() {
         RoamBooks x = ready(5, 10, 2);
-        talk(x, 9);
-        x.file(1, 0);
+        for (int i = 0; i < 3; i++) {
+            talk(x, 3);
+            x.file(1, 0);
+        }
         x.deliver(1, 0, 0);
+        x.deliver(1, 0, 1);
+        Expect.due("two of three", 30, x.owes(0, 1));
+        Expect.due("two of three, anew", 30, x.owesAnew(0, 1));
+        x.deliver(1, 0, 2);
         Expect.due("below the threshold", 45, x.owes(0, 1));
         Expect.due("below it, anew", 45, x.owesAnew(0, 1));
         talk(x, 1);
         x.file(1, 0);
         Expect.due("filed is not taken", 45, x.owes(0, 1));
-        x.deliver(1, 0, 1);
+        x.deliver(1, 0, 3);
         Expect.due("from the first minute", 20, x.owes(0, 1));
         Expect.due("from the first minute, anew", 20, x.owesAnew(0, 1));
         talk(x, 1);
         x.file(1, 0);
-        x.deliver(1, 0, 2);
+        x.deliver(1, 0, 4);
         Expect.due("above it", 22, x.owes(0, 1));
     }
 
@@ -338,6 +345,22 @@ public final class FilesTest {
         for (int network = 0; network < 6; network++) {
             Expect.due("lost", often.lose(network, 0), once.lose(network, 0));
         }
+    }
+
+    private static void nineLostNoticesAreComeOverInALongPass() {
+        RoamBooks x = ready(0, 0, 0);
+        x.off(1);
+        x.lose(0, 9);
+        x.pass(9 * 60 + 59);
+        x.attach(0, 0);
+        x.lose(0, 9);
+        x.pass(9 * 60);
+        Expect.due("each of nine hours lost one", 1, x.where(0));
+        x.lose(0, 9);
+        x.pass(50000);
+        Expect.due("none are left", 0, x.lose(0, 0));
+        Expect.due("the note is right", 0, x.where(0));
+        Expect.due("all agrees", true, x.agrees(0));
     }
 
     private static RoamBooks lossy() {

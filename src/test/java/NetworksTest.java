@@ -65,8 +65,8 @@ public final class NetworksTest {
         RoamBooks x = new RoamBooks();
         x.reach(0, 3);
         x.reach(1, 3);
-        int stays = x.subscriber(1, 0, 0);
         int goes = x.subscriber(0, 0, 0);
+        int stays = x.subscriber(1, 0, 0);
         int elsewhere = x.subscriber(0, 1, 0);
         x.attach(stays, 1);
         x.attach(goes, 0);

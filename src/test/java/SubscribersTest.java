@@ -21,6 +21,7 @@ public final class SubscribersTest {
         emergencyGoesOverTheLowest();
         whereIsTheNote();
         contactIsTheLatest();
+        oldContactsAreTakenOutAtAnHour();
         agreesAboutEachBook();
         subscriberIsTellsAtFirst();
         subscriberIsRefusesWrongInputs();
@@ -227,6 +228,9 @@ public final class SubscribersTest {
         x.off(s);
         x.steer(1, 0);
         Expect.due("another home's favourite", 0, x.attach(s, 0));
+        int guest = x.subscriber(1, 0, 0);
+        x.agree(1, 0, 0, 100, 0, 0, 0);
+        Expect.due("network 0 is a favourite too", 5, x.attach(guest, 1));
     }
 
     private static void attachHealsTheOtherBook() {
@@ -335,6 +339,26 @@ public final class SubscribersTest {
         Expect.noSuch("network 6", () -> x.contact(6, 0));
         Expect.noSuch("subscriber -1", () -> x.contact(0, -1));
         Expect.noSuch("subscriber 1", () -> x.contact(0, 1));
+    }
+
+    private static void oldContactsAreTakenOutAtAnHour() {
+        RoamBooks x = withNetworks(1);
+        int s = x.subscriber(0, 0, 0);
+        x.pass(1);
+        x.attach(s, 0);
+        x.off(s);
+        x.pass(179);
+        Expect.due("179 minutes ago, at an hour", 1, x.contact(0, s));
+        x.pass(59);
+        Expect.due("238 minutes ago, at none", 1, x.contact(0, s));
+        x.pass(1);
+        Expect.due("239 minutes ago, at an hour", -1, x.contact(0, s));
+        x.attach(s, 0);
+        x.off(s);
+        x.pass(179);
+        Expect.due("179 minutes ago, at none", 240, x.contact(0, s));
+        x.pass(1);
+        Expect.due("180 minutes ago, at an hour", -1, x.contact(0, s));
     }
 
     private static void agreesAboutEachBook() {

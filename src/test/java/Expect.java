@@ -1,24 +1,25 @@
 /** Compares answers with those that are due, prints each that is not, and ends the program by them. */
 final class Expect {
-    interface Asked {
-        long answer();
-    }
-
     interface Told {
         void tell();
     }
 
+    private static String running = "";
     private static int compared = 0;
     private static int wrong = 0;
 
     private Expect() {
     }
 
+    /** What is compared from now on belongs to the case of this name. */
+    static void begin(String name) {
+        running = name + ": ";
+    }
+
     static void due(String call, long want, long got) {
         compared++;
         if (want != got) {
-            wrong++;
-            System.out.println(call + " answered " + got + ", due is " + want);
+            fail(call + " answered " + got + ", due is " + want);
         }
     }
 
@@ -29,9 +30,17 @@ final class Expect {
     static void due(String call, String want, String got) {
         compared++;
         if (!want.equals(got)) {
-            wrong++;
-            System.out.println(call + " answered " + got + ", due is " + want);
+            fail(call + " answered " + got + ", due is " + want);
         }
+    }
+
+    static void fail(String what) {
+        wrong++;
+        System.out.println(running + what);
+    }
+
+    static int comparedYet() {
+        return compared;
     }
 
     static void noSuch(String call, Told told) {
@@ -48,7 +57,7 @@ final class Expect {
 
     // By its exact class and its place, since the machine's are classes below these, and the library
     // throws some of the same classes from places of its own.
-    private static String thrownBy(Told told) {
+    static String thrownBy(Told told) {
         try {
             told.tell();
         } catch (RuntimeException e) {

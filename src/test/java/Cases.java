@@ -5,24 +5,34 @@ import java.util.ArrayList;
 import java.util.Comparator;
 import java.util.List;
 
-/** Runs the cases of a test class, each of its static methods that take and answer nothing, by their names. */
+/** Runs the cases of a test, which are its methods that take and answer nothing, each by its name. */
 final class Cases {
     private Cases() {
     }
 
+    /** The cases are the static methods of a test class. */
     static void run(Class<?> test) {
-        List<Method> cases = casesOf(test);
+        run(test.getSimpleName(), null, casesOf(test, true));
+    }
+
+    /** The cases are the methods of an object, which several tests have alike. */
+    static void run(String test, Object object) {
+        run(test, object, casesOf(object.getClass(), false));
+    }
+
+    private static void run(String test, Object object, List<Method> cases) {
         for (Method one : cases) {
-            runOne(one);
+            Expect.begin(test + "." + one.getName());
+            runOne(object, one);
         }
-        System.out.println(test.getSimpleName() + ": " + cases.size() + " cases");
+        System.out.println(test + ": " + cases.size() + " cases");
         Expect.end();
     }
 
-    private static List<Method> casesOf(Class<?> test) {
+    private static List<Method> casesOf(Class<?> kind, boolean isStatic) {
         List<Method> cases = new ArrayList<>();
-        for (Method method : test.getDeclaredMethods()) {
-            boolean isCase = Modifier.isStatic(method.getModifiers()) && !method.isSynthetic()
+        for (Method method : kind.getDeclaredMethods()) {
+            boolean isCase = Modifier.isStatic(method.getModifiers()) == isStatic && !method.isSynthetic()
                     && method.getParameterCount() == 0 && method.getReturnType() == void.class;
             if (isCase) {
                 cases.add(method);
@@ -32,11 +42,10 @@ final class Cases {
         return cases;
     }
 
-    private static void runOne(Method one) {
-        Expect.begin(one.getDeclaringClass().getSimpleName() + "." + one.getName());
+    private static void runOne(Object object, Method one) {
         int before = Expect.comparedYet();
         try {
-            one.invoke(null);
+            one.invoke(object);
         } catch (InvocationTargetException e) {
             Expect.fail("ended by " + e.getCause());
         } catch (IllegalAccessException e) {

@@ -14,11 +14,11 @@ final class Owed {
         Expect.due(when, want, asked.of(x, 0, 1));
     }
 
-    void nothingAtFirst() {
+    void atFirstItIsNothing() {
         due("a new object", 0, new RoamBooks());
     }
 
-    void nothingBeforeAFileIsTaken() {
+    void beforeAFileIsTakenItIsNothing() {
         RoamBooks x = Scene.talkers(5, 0, 5);
         Scene.talk(x, 3);
         due("not filed", 0, x);
@@ -28,7 +28,7 @@ final class Owed {
         due("taken", 15, x);
     }
 
-    void sumOfAllFilesTaken() {
+    void itIsTheSumOfAllFilesTaken() {
         RoamBooks x = Scene.talkers(5, 0, 5);
         int due = 0;
         for (int file = 0; file < 20; file++) {
@@ -38,13 +38,13 @@ final class Owed {
         }
     }
 
-    void belowTheThreshold() {
+    void oneBelowTheThresholdItIsByThePrice() {
         RoamBooks x = Scene.talkers(5, 10, 2);
         Scene.talkAndDeliver(x, 9);
         due("9 of 10", 45, x);
     }
 
-    void fromTheThresholdOn() {
+    void fromTheThresholdOnItIsByTheLowerPrice() {
         RoamBooks x = Scene.talkers(5, 10, 2);
         Scene.talkAndDeliver(x, 9);
         Scene.talkAndDeliver(x, 1);
@@ -53,7 +53,7 @@ final class Owed {
         due("11 of 10", 22, x);
     }
 
-    void thresholdWithinOneFile() {
+    void theThresholdIsComeToWithinOneFile() {
         RoamBooks x = Scene.talkers(5, 10, 2);
         Scene.talk(x, 4);
         Scene.talk(x, 6);
@@ -69,14 +69,14 @@ final class Owed {
         due("no threshold", 3000, x);
     }
 
-    void thresholdOne() {
+    void thresholdOneIsTheLeast() {
         RoamBooks x = Scene.talkers(5, 1, 2);
         due("nothing taken", 0, x);
         Scene.talkAndDeliver(x, 1);
         due("1 of 1", 2, x);
     }
 
-    void threshold9999() {
+    void threshold9999IsTheGreatest() {
         RoamBooks x = Scene.talkers(5, 9999, 2);
         for (int i = 0; i < 16; i++) {
             Scene.talk(x, 600);
@@ -126,7 +126,7 @@ final class Owed {
         Expect.due("another home", 60, asked.of(x, 2, 1));
     }
 
-    void withoutAnAgreementNothing() {
+    void withoutAnAgreementItIsNothing() {
         RoamBooks x = withoutAgreementFrom(10);
         Scene.talkAndDeliver(x, 4);
         due("it held", 20, x);
@@ -201,37 +201,21 @@ final class Owed {
         due("7 minutes", 2 + 20 + 150, x);
     }
 
-    void theMostThatCanBeOwed() {
-        RoamBooks x = Scene.oneWhoMayRoam();
-        x.agree(0, 1, 0, Scene.FOREVER, 99, 0, 99);
-        x.subscriber(0, 0, 0);
-        for (int s = 0; s < 2; s++) {
-            x.attach(s, 1);
-            x.cap(s, 0, true);
-        }
-        for (int i = 0; i < 200; i++) {
-            Scene.talk(x, 600);
-        }
+    void theMostThatCanBeOwedIsAll() {
+        RoamBooks x = Scene.allThatTwoGuestsCanTalk();
         x.file(1, 0);
         x.deliver(1, 0, 0);
         due("200 calls of 600 minutes for both", 200 * 600 * 2 * 99, x);
     }
 
-    void ofOneNetworkAloneNothing() {
+    void ofOneNetworkAloneItIsNothing() {
         for (int network = 0; network < 6; network++) {
             Expect.due("itself", 0, asked.of(Scene.busy(), network, network));
         }
     }
 
-    void networksZeroAndFive() {
-        RoamBooks x = Scene.receiving(33);
-        x.subscriber(0, 0, 0);
-        x.subscriber(5, 0, 0);
-        x.agree(0, 5, 0, 1, 3, 0, 3);
-        x.agree(5, 0, 0, 1, 4, 0, 4);
-        x.attach(0, 5);
-        x.attach(1, 0);
-        x.call(0, 1, 60);
+    void networksZeroAndFiveAreLeastAndGreatest() {
+        RoamBooks x = Scene.zeroAndFive();
         x.file(5, 0);
         x.file(0, 5);
         x.deliver(5, 0, 0);
@@ -240,11 +224,27 @@ final class Owed {
         Expect.due("5 to 0", 4, asked.of(x, 5, 0));
     }
 
-    void noSuchHome(int home) {
-        Refused.noSuch(x -> asked.of(x, home, 1));
+    void homeMinusOneIsNone() {
+        Refused.noSuch(x -> asked.of(x, -1, 1));
     }
 
-    void noSuchVisited(int visited) {
-        Refused.noSuch(x -> asked.of(x, 0, visited));
+    void homeSixIsNone() {
+        Refused.noSuch(x -> asked.of(x, 6, 1));
+    }
+
+    void homesFarOffAreNone() {
+        Refused.noSuchFarOff((x, far) -> asked.of(x, far, 1));
+    }
+
+    void visitedMinusOneIsNone() {
+        Refused.noSuch(x -> asked.of(x, 0, -1));
+    }
+
+    void visitedSixIsNone() {
+        Refused.noSuch(x -> asked.of(x, 0, 6));
+    }
+
+    void visitedFarOffIsNone() {
+        Refused.noSuchFarOff((x, far) -> asked.of(x, 0, far));
     }
 }

@@ -161,6 +161,16 @@ public final class Promise18CapTest {
         Expect.due("called at home", 0, x.call(1, 0, 60));
     }
 
+    static void aboveTheCapAlreadyACallAbroadFailsThoughItCostsNothing() {
+        RoamBooks x = cheap(7, false);
+        x.call(0, 1, 420);
+        x.prices(0, 0, 0, 0);
+        Expect.due("at the cap", 0, x.call(0, 1, 60));
+        x.cap(0, 6, false);
+        Expect.due("above the cap", 5, x.call(0, 1, 60));
+        Expect.due("above the cap, being called", 6, x.call(1, 0, 60));
+    }
+
     static void withANewMonthItCutsAnew() {
         RoamBooks x = cheap(7, false);
         x.call(0, 1, 420);

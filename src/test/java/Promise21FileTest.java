@@ -129,14 +129,7 @@ public final class Promise21FileTest {
     }
 
     static void networksZeroAndFiveAreLeastAndGreatest() {
-        RoamBooks x = Scene.receiving(33);
-        x.subscriber(0, 0, 0);
-        x.subscriber(5, 0, 0);
-        x.agree(0, 5, 0, 1, 0, 0, 0);
-        x.agree(5, 0, 0, 1, 0, 0, 0);
-        x.attach(0, 5);
-        x.attach(1, 0);
-        x.call(0, 1, 60);
+        RoamBooks x = Scene.zeroAndFive();
         Expect.due("5 for 0", 0, x.file(5, 0));
         Expect.due("0 for 5", 0, x.file(0, 5));
     }

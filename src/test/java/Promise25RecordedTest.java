@@ -68,15 +68,7 @@ public final class Promise25RecordedTest {
     }
 
     static void ofTheMostThatCanBeRecordedTheyAreAll() {
-        RoamBooks x = Scene.oneWhoMayRoam();
-        x.subscriber(0, 0, 0);
-        for (int s = 0; s < 2; s++) {
-            x.attach(s, 1);
-            x.cap(s, 0, true);
-        }
-        for (int i = 0; i < 200; i++) {
-            Scene.talk(x, 600);
-        }
+        RoamBooks x = Scene.allThatTwoGuestsCanTalk();
         due(x, 200 * 600 * 2, 0, 0, 0);
     }
 
@@ -98,19 +90,11 @@ public final class Promise25RecordedTest {
     }
 
     static void networksZeroAndFiveAreLeastAndGreatest() {
-        RoamBooks x = Scene.receiving(33);
-        x.subscriber(0, 0, 0);
-        x.subscriber(5, 0, 0);
-        x.agree(0, 5, 0, 1, 0, 0, 0);
-        x.agree(5, 0, 0, 1, 0, 0, 0);
-        x.attach(0, 5);
+        RoamBooks x = Scene.zeroAndFive();
         x.attach(1, 5);
         x.call(0, 1, 60);
-        x.attach(0, 0);
-        x.attach(1, 0);
-        x.call(1, 0, 120);
-        Expect.due("by 5 for 0", 1, x.recorded(5, 0, 0));
-        Expect.due("by 0 for 5", 2, x.recorded(0, 5, 0));
+        Expect.due("by 5 for 0", 2, x.recorded(5, 0, 0));
+        Expect.due("by 0 for 5", 1, x.recorded(0, 5, 0));
     }
 
     static void visitedMinusOneIsNone() {

@@ -61,7 +61,7 @@ final class Scene {
         return talkers(5, 0, 5);
     }
 
-    /** The guest calls the host: so many minutes are recorded by 1 for 0. */
+    /** 0 calls 1, and the call does not fail. */
     static void talk(RoamBooks x, int minutes) {
         Expect.due("call", 0, x.call(0, 1, minutes * 60));
     }
@@ -73,6 +73,34 @@ final class Scene {
 
     static void talkAndDeliver(RoamBooks x, int minutes) {
         Expect.due("deliver", 0, x.deliver(1, 0, talkAndFile(x, minutes)));
+    }
+
+    /** As many calls as may be, each as long as may be, of two of home 0 who are both abroad in 1. */
+    static RoamBooks allThatTwoGuestsCanTalk() {
+        RoamBooks x = one();
+        x.subscriber(0, 0, 0);
+        x.agree(0, 1, 0, FOREVER, 99, 0, 99);
+        for (int s = 0; s < 2; s++) {
+            x.attach(s, 1);
+            x.cap(s, 0, true);
+        }
+        for (int i = 0; i < 200; i++) {
+            talk(x, 600);
+        }
+        return x;
+    }
+
+    /** Networks 0 and 5 have each recorded a minute for the other one. */
+    static RoamBooks zeroAndFive() {
+        RoamBooks x = receiving(33);
+        x.subscriber(0, 0, 0);
+        x.subscriber(5, 0, 0);
+        x.agree(0, 5, 0, 1, 3, 0, 3);
+        x.agree(5, 0, 0, 1, 4, 0, 4);
+        x.attach(0, 5);
+        x.attach(1, 0);
+        talk(x, 1);
+        return x;
     }
 
     /** Ten subscribers of home 0 at place 0, attached to none. */

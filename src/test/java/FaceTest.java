@@ -47,6 +47,8 @@ public final class FaceTest {
         "Exact(", "package ", "instanceof", "\" +", "+ \"", "protected "};
     private static final List<String> IMPORTS = List.of("import java.util.ArrayList;", "import java.util.Arrays;");
     private static final int LONGEST_METHOD = 60;
+    private static final int MOST_PARAMETERS = 7;
+    private static final int MOST_FIELDS = 20;
 
     private FaceTest() {
     }
@@ -54,6 +56,7 @@ public final class FaceTest {
     public static void main(String[] args) throws IOException {
         methodsAreThoseOfTheDocument();
         nothingElseIsSeen();
+        nothingIsTooWide();
         theTextKeepsToTheLanguage();
         Expect.end();
     }
@@ -119,6 +122,23 @@ public final class FaceTest {
             Expect.due(inside + " is public", false, Modifier.isPublic(inside.getModifiers()));
         }
         Expect.due("some twelve classes at most", true, allClasses().size() <= 12);
+    }
+
+    private static void nothingIsTooWide() {
+        for (Class<?> kind : allClasses()) {
+            for (Method method : kind.getDeclaredMethods()) {
+                Expect.due(method + " takes too many", false, method.getParameterCount() > MOST_PARAMETERS);
+            }
+            for (Constructor<?> constructor : kind.getDeclaredConstructors()) {
+                Expect.due(constructor + " takes too many", false,
+                        constructor.getParameterCount() > MOST_PARAMETERS);
+            }
+            int fields = 0;
+            for (Field field : kind.getDeclaredFields()) {
+                fields += Modifier.isStatic(field.getModifiers()) ? 0 : 1;
+            }
+            Expect.due(kind + " has some twenty fields at most", true, fields <= MOST_FIELDS);
+        }
     }
 
     private static boolean isPrivateOrPublic(int modifiers) {
